@@ -753,7 +753,7 @@ public final class DuelLetters {
         }
 
         void addText(Text text) {
-            if (textCount >= MOST_TEXTS) {
+            if (text == null || textCount >= MOST_TEXTS) {
                 return;
             }
             texts[textCount] = text;

@@ -101,6 +101,9 @@ public final class FriendsTest {
         Due.tell(x, "tone 39 + s");
         x.rule(0, 0);
         tonesAre(x, 39, 59, 19, 59, 9, 0);
+        x.posts(3);
+        Due.tell(x, "tone 0 + s * 10");
+        tonesAre(x, 30, 50, 15, 50, 5, 0);
     }
 
     private static void yieldsAre(DuelLetters x, int... terms) {

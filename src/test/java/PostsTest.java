@@ -211,6 +211,10 @@ public final class PostsTest {
         due.is(4, x.table(4), "lost");
         due.is(8, x.table(5), "sent of all");
         for (int w : new int[] {-1, 7, MIN, MAX}) due.is(BAD, x.table(w), "table of no such thing");
+        for (int i = 2; i < 8; i++) x.friend(0, 0, 0);
+        x.posts(1);
+        due.is(16, x.table(5), "sent of eight");
+        due.is(2, x.table(6), "yielded of eight");
     }
 
     private static void onlyTerm(DuelLetters x, int term) {
@@ -224,6 +228,8 @@ public final class PostsTest {
         due.promise(15);
         DuelLetters x = new DuelLetters();
         due.is(0, x.taken(), "36 are shared out, 40 are wanted");
+        x.honour(0, 17);
+        due.is(0, x.taken(), "36 are shared out, 37 are wanted");
         x.honour(0, 0);
         x.honour(1, 0);
         due.is(10000, x.taken(), "all are taken");
@@ -248,6 +254,10 @@ public final class PostsTest {
         DuelLetters x = new DuelLetters();
         due.is(NONE, x.terms(0), "none is taken");
         due.is(NONE, x.terms(1), "none is taken");
+        x.honour(0, 18);
+        x.honour(1, 19);
+        due.is(NONE, x.terms(0), "none is taken, but for one");
+        due.is(NONE, x.terms(1), "none is taken, but for one");
         x.honour(0, 0);
         x.honour(1, 0);
         // both have 18 if the stands are 18 together: the least such number

@@ -130,6 +130,13 @@ public final class TextsTest {
         faultAt(0, "to");
         faultAt(2, "  tones p");
         faultAt(0, "ton p");
+        faultAt(0, "xone p");
+        faultAt(0, "tonx p");
+        faultAt(0, "gee 1");
+        faultAt(0, "mine 1");
+        faultAt(0, "tonea p");
+        faultAt(0, "tonez p");
+        faultAt(7, "tone 1/");
         faultAt(0, "5");
         faultAt(0, "(");
         faultAt(0, "Tone p");
@@ -216,6 +223,11 @@ public final class TextsTest {
         due.is(0, x.count(7), "the tape is used up");
         due.is(-100, x.text(), "an empty tape is no text");
         due.is(1, x.count(5), "texts");
+        // a fault leaves nothing behind for the next text
+        for (String wrong : new String[] {"tone ps", "tone p 99999", "(((", "tone ((((((((!!!!!!!!", "tone ((((((((("}) {
+            Due.tell(x, wrong);
+            due.isTrue(Due.tell(x, "tone !((p))+7") >= 0, "a text behind '" + wrong + "'");
+        }
     }
 
     private static void fullOfTexts() {
@@ -228,6 +240,8 @@ public final class TextsTest {
         due.is(-107, Due.tell(x, "fee (99"), "a fault stands ahead of FULL");
         due.is(14, x.count(5), "texts");
         due.is(13, x.fee(), "the last one counts");
+        due.is(1, x.textTold(13, 0), "the last text");
+        for (int t : new int[] {14, 15, 16}) due.is(BAD, x.textTold(t, 0), "no text behind the last");
     }
 
     private static void textTold() {
