@@ -26,8 +26,8 @@ public final class DuelLetters {
     private final Quarrel image = new Quarrel();
     private boolean imageKept = false;
     private final Ways ways = new Ways();
-    private final Tape tape = new Tape();
-    private final Reader reader = new Reader(tape);
+    private final Reader reader = new Reader();
+    private final Tape tape = reader.tape;
     private final Row[] sheets = new Row[SHEET_COUNT];
     private final Slot[] slots = new Slot[SLOT_COUNT];
     private final int[] waiting = new int[MOST_WAITING];
@@ -753,7 +753,7 @@ public final class DuelLetters {
         }
 
         void addText(Text text) {
-            if (text == null || textCount >= MOST_TEXTS) {
+            if (text == null || textCount >= MOST_TEXTS || !within(text.key, 0, KEY_COUNT - 1)) {
                 return;
             }
             texts[textCount] = text;
@@ -1049,7 +1049,7 @@ public final class DuelLetters {
     private static final class Reader {
         private static final int END = 0, LETTERS = 1, DIGITS = 2, SIGN = 3, BLANK = 4, WRONG = 5;
 
-        final Tape tape;
+        final Tape tape = new Tape();
         /** The place behind the word or sign that was read last. */
         int at = 0;
         int token = END;
@@ -1061,10 +1061,6 @@ public final class DuelLetters {
         int operands = 0;
         int openBrackets = 0;
         int openBangs = 0;
-
-        Reader(Tape tape) {
-            this.tape = tape;
-        }
 
         /** The place of the fault, or -1 if the tape is a text. */
         int findFault() {

@@ -53,7 +53,7 @@ public final class RandomRunsTest {
             case "kind" -> near(0, 5);
             case "side" -> near(0, 1);
             case "pride" -> near(0, random.nextInt(3) == 0 ? 1 : 99);
-            case "friend" -> near(0, random.nextInt(4) == 0 ? 8 : Math.max(0, real.count(0) - 1));
+            case "friend" -> near(0, random.nextInt(4) == 0 ? 8 : Math.max(0, model.count(0) - 1));
             case "term" -> near(0, 3);
             case "digit" -> near(0, 9);
             case "honour" -> near(0, random.nextInt(5) == 0 ? 400 : 90);
