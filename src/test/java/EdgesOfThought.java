@@ -136,13 +136,11 @@ final class EdgesOfThought {
         s.is(0, x.held(1), "one post is too few");
         s.is(2, x.held(2), "without the second");
         s.is(2, x.held(60), "without the second, peace stays");
-        // a tone that hangs on the letters that are sent, but not of the one that is held back
         x = Sentences.withoutLoss();
         x.friend(0, 1, 0);
         x.friend(5, 0, 0);
         x.honour(0, 0);
         x.honour(1, 17);
-        Due.tell(x, "tone 0");
         s.is(1, x.held(1), "without the first");
         // no draw for it: the second then has the draw that was the first one's
         int seed = 0;
@@ -186,6 +184,12 @@ final class EdgesOfThought {
         s.is(40, x.cool(1), "40 yields");
         x.rule(1, 40);
         s.is(18, x.cool(1), "18 yields, 19 to 39 do not");
+        // a hot one with pride 60 raises from heat 0 on; there is no heat below it
+        x.turns(0, 1);
+        x.set(0, 2, 60);
+        s.is(NONE, x.cool(1), "heat 0 raises");
+        x.set(0, 2, 59);
+        s.is(0, x.cool(1), "heat 0 yields, heat 1 raises");
     }
 
     private void whoIsBought() {

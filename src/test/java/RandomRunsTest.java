@@ -1,8 +1,5 @@
-import java.lang.reflect.Method;
 import java.util.ArrayList;
-import java.util.HashMap;
 import java.util.List;
-import java.util.Map;
 import java.util.Random;
 
 /** Random runs of at most 512 calls, each answer held against that of Model. The seeds are fixed. */
@@ -23,25 +20,10 @@ public final class RandomRunsTest {
         -100000, 99999, -99999, 32767, 32768, -32768, -32769, 400, 401, 9999, 10000};
 
     private final Random random;
-    private final DuelLetters real = new DuelLetters();
-    private final Model model = new Model();
-    private final List<String> log = new ArrayList<>();
-    private int calls = 0;
-    private boolean wrong = false;
-
-    private static final Map<String, Method> REAL = methods(DuelLetters.class);
-    private static final Map<String, Method> MODEL = methods(Model.class);
+    private final Pair pair = new Pair();
 
     private RandomRunsTest(long seed) {
         random = new Random(seed);
-    }
-
-    private static Map<String, Method> methods(Class<?> of) {
-        Map<String, Method> map = new HashMap<>();
-        for (Method m : of.getDeclaredMethods()) {
-            if (java.lang.reflect.Modifier.isPublic(m.getModifiers())) map.put(m.getName(), m);
-        }
-        return map;
     }
 
     private int one(String like) {
@@ -53,7 +35,7 @@ public final class RandomRunsTest {
             case "kind" -> near(0, 5);
             case "side" -> near(0, 1);
             case "pride" -> near(0, random.nextInt(3) == 0 ? 1 : 99);
-            case "friend" -> near(0, random.nextInt(4) == 0 ? 8 : Math.max(0, model.count(0) - 1));
+            case "friend" -> near(0, random.nextInt(4) == 0 ? 8 : Math.max(0, pair.model.count(0) - 1));
             case "term" -> near(0, 3);
             case "digit" -> near(0, 9);
             case "honour" -> near(0, random.nextInt(5) == 0 ? 400 : 90);
@@ -87,24 +69,11 @@ public final class RandomRunsTest {
     }
 
     private int call(String name, Integer... args) {
-        if (calls == 512 || wrong) return 0;
-        calls++;
-        try {
-            int got = (int) REAL.get(name).invoke(real, (Object[]) args);
-            int want = (int) MODEL.get(name).invoke(model, (Object[]) args);
-            log.add(name + List.of(args) + " " + got);
-            if (got != want) {
-                wrong = true;
-                System.out.println(String.join("\n", log));
-                System.out.println("the last answer is not " + want);
-            }
-            return want;
-        } catch (ReflectiveOperationException e) {
-            wrong = true;
-            System.out.println(String.join("\n", log));
-            System.out.println(name + List.of(args) + " threw " + e.getCause());
-            return 0;
-        }
+        return pair.call(name, args);
+    }
+
+    private boolean goesOn() {
+        return pair.calls < Pair.MOST_CALLS && !pair.wrong;
     }
 
     private void anyCall(String[] bag) {
@@ -160,21 +129,8 @@ public final class RandomRunsTest {
             }
         }
         if (b.length() > 96) b.setLength(96);
-        call("trim", 0);
-        feedAll(b.toString());
+        pair.feed(b.toString(), random.nextInt(256));
         call("text");
-    }
-
-    private void feedAll(String text) {
-        for (int at = 0; at < text.length(); at += 12) {
-            int[] v = new int[3];
-            for (int i = 0; i < 12; i++) {
-                int c = at + i < text.length() ? text.charAt(at + i) : random.nextInt(256);
-                v[i / 4] = v[i / 4] << 8 | c;
-            }
-            call("feed", v[0], v[1], v[2]);
-        }
-        call("trim", text.length());
     }
 
     private void tellPosts() {
@@ -225,7 +181,7 @@ public final class RandomRunsTest {
             for (int i = 0; i < 99; i++) call("posts", 100);
             call("posts", 95 + random.nextInt(5));
         }
-        while (calls < 512 && !wrong) {
+        while (goesOn()) {
             switch (random.nextInt(60)) {
                 case 0 -> tellText();
                 case 1 -> tellPosts();
@@ -234,12 +190,12 @@ public final class RandomRunsTest {
                 default -> anyCall(bag);
             }
         }
-        return !wrong;
+        return !pair.wrong;
     }
 
     private boolean runOfTexts() {
         call("deal", 8);
-        while (calls < 512 && !wrong) {
+        while (goesOn()) {
             tellText();
             call("why", random.nextInt(3));
             call("textTold", random.nextInt(15), random.nextInt(2));
@@ -248,9 +204,9 @@ public final class RandomRunsTest {
             call("fine", random.nextInt(8));
             if (random.nextInt(4) == 0) call("posts", 1 + random.nextInt(3));
             if (call("count", 5) == 14 && random.nextInt(3) == 0) call("back");
-            if (calls < 40 && random.nextInt(2) == 0) call("keep");
+            if (pair.calls < 40 && random.nextInt(2) == 0) call("keep");
         }
-        return !wrong;
+        return !pair.wrong;
     }
 
     public static void main(String[] args) {
