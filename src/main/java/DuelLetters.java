@@ -304,14 +304,14 @@ public final class DuelLetters {
         if (row.isMissing()) {
             return NOTHING;
         }
-        int best = 0;
-        int least = Integer.MAX_VALUE;
+        int best = NONE;
+        int least = NONE;
         for (int term = 0; term < TERM_COUNT; term++) {
             thought.becomes(now);
             thought.cares[carePlace(side, term)] = MOST_CARE;
             thought.runPosts(1, NOBODY);
             int differs = differenceFrom(row);
-            if (differs < least) {
+            if (best == NONE || differs < least) {
                 best = term;
                 least = differs;
             }
@@ -927,12 +927,12 @@ public final class DuelLetters {
         /** The way nearest to the stands as a number; -1 if none is taken. */
         int nearest(Quarrel quarrel) {
             int best = -1;
-            int least = Integer.MAX_VALUE;
+            int least = 0;
             start(quarrel);
             for (int number = 0; number < WAYS; number++) {
                 if (spare(quarrel) >= 0) {
                     int far = distanceTo(quarrel);
-                    if (far < least) {
+                    if (best < 0 || far < least) {
                         best = number;
                         least = far;
                     }

@@ -349,6 +349,12 @@ final class EdgesOfPosts {
         s.is(5556, x.terms(1), "one step of any term");
         x.honour(0, 64);
         s.is(6555, x.terms(1), "one step of term 0 is nearer than four");
+        // the first of all ways and the last one, each where others are taken too
+        for (int stands : new int[] {0, 1, 9998, 9999}) {
+            x = wants(0, 0);
+            for (int t = 3, left = stands; t >= 0; t--, left /= 10) x.stand(t, left % 10);
+            s.is(stands, x.terms(1), "peace as it is at " + stands);
+        }
     }
 
     private void posts() {

@@ -18,6 +18,7 @@ public final class FaceTest {
 
     public static void main(String[] args) throws Exception {
         face();
+        faceAsWritten();
         members();
         words(plain(Files.readString(SOURCE)));
         methods(plain(Files.readString(SOURCE)));
@@ -50,6 +51,31 @@ public final class FaceTest {
             due.is(Integer.parseInt(m.group(2)), DuelLetters.class.getField(m.group(1)).getInt(null), m.group(1));
         }
         due.is(constants, DuelLetters.class.getFields().length, "public fields");
+    }
+
+    /** The source has the document's calls word for word and in its order, and ahead of them what the interface says. */
+    private static void faceAsWritten() throws Exception {
+        String document = Files.readString(DOCUMENT), source = Files.readString(SOURCE);
+        int at = 0, seen = 0;
+        Matcher m = Pattern.compile("    (public int \\w+\\([^)]*\\));").matcher(document);
+        for (; m.find(); seen++) {
+            int next = source.indexOf("    " + m.group(1) + " {", at);
+            due.isTrue(next >= 0, m.group(1) + " stands behind those ahead of it in the document");
+            at = Math.max(at, next);
+        }
+        due.is(42, seen, "calls of the document's face");
+        m = Pattern.compile("Ahead of the calls ([^\n]*) the interface says: (---- [^\n]*)\\.\n").matcher(document);
+        for (seen = 0; m.find(); seen++) {
+            int from = source.indexOf("    // " + m.group(2) + "\n"), to = source.indexOf("\n    // ----", from + 1);
+            due.isTrue(from >= 0 && to > from, m.group(2));
+            if (from < 0 || to < from) continue;
+            String told = source.substring(from, to);
+            StringBuilder calls = new StringBuilder();
+            Matcher call = Pattern.compile("    public int (\\w+)\\(").matcher(told);
+            while (call.find()) calls.append(calls.length() > 0 ? ", `" : "`").append(call.group(1)).append('`');
+            due.isTrue(m.group(1).contentEquals(calls), m.group(2) + ": " + calls + " for " + m.group(1));
+        }
+        due.is(6, seen, "parts of the interface");
     }
 
     private static void members() {
@@ -105,8 +131,7 @@ public final class FaceTest {
         Matcher m = Pattern.compile("import ([^;]+);").matcher(source);
         while (m.find()) due.isTrue(m.group(1).equals("java.util.Arrays"), "import " + m.group(1));
         m = Pattern.compile("\\b(System|Math|Arrays|Integer|Long)\\.(\\w+)").matcher(source);
-        List<String> may = List.of("System.arraycopy", "Math.min", "Math.max", "Math.abs", "Arrays.fill", "Arrays.copyOf",
-                "Integer.MAX_VALUE", "Integer.MIN_VALUE");
+        List<String> may = List.of("System.arraycopy", "Math.min", "Math.max", "Math.abs", "Arrays.fill", "Arrays.copyOf");
         while (m.find()) due.isTrue(may.contains(m.group()), m.group());
     }
 
