@@ -22,7 +22,10 @@ import javax.tools.JavaCompiler;
 import javax.tools.StandardJavaFileManager;
 import javax.tools.ToolProvider;
 
-/** The rules of LANGUAGE.md on the class as the compiler reads it: each name with what it stands for. */
+/**
+ * Those rules of LANGUAGE.md that can be seen in the class as the compiler reads it, each name with what it stands for.
+ * Not looked at: whether an index, a divisor or a reference is tested first (7), how deep recursion goes (8), what is made (12).
+ */
 public final class LanguageTest {
     private static final Path SOURCE = Path.of("src/main/java/DuelLetters.java");
     private static final int MOST_DEEP = 8, MOST_LINES = 60, MOST_PARAMETERS = 7, MOST_CLASSES = 12, MOST_FIELDS = 20;
